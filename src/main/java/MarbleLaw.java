@@ -246,8 +246,7 @@ public final class MarbleLaw {
             return found(UNLIKE);
         }
         if (kind == JOIN) {
-            course.begin(LawReader.PLAIN, 0);
-            course.go(0, m);
+            standBehind(m);
             course.meet(m);
             return course.someCame() ? 1 : 0;
         }
@@ -294,8 +293,7 @@ public final class MarbleLaw {
         if (!isStuff(s) || !isStory(m)) {
             return BAD;
         }
-        course.begin(LawReader.PLAIN, 0);
-        course.go(0, m);
+        standBehind(m);
         return course.in[s];
     }
 
@@ -303,8 +301,7 @@ public final class MarbleLaw {
         if (!isStuff(s) || !isStory(m) || !within(what, 4)) {
             return BAD;
         }
-        course.begin(LawReader.PLAIN, 0);
-        course.go(0, m);
+        standBehind(m);
         int thing = course.in[s];
         switch (what) {
             case 0:
@@ -435,8 +432,7 @@ public final class MarbleLaw {
         if (tale.ofMaking(made, PARTED) == 0) {
             return 0;
         }
-        course.begin(LawReader.PLAIN, 0);
-        course.go(0, made);
+        standBehind(made);
         course.meet(made);
         if (!course.someCame()) {
             return 0;
@@ -708,6 +704,12 @@ public final class MarbleLaw {
             return found(NOTHING);
         }
         return within(i, rows[r].size) ? 0 : found(BEYOND);
+    }
+
+    /** For what is the same by all LAWS; whether PARTS are too fine is not to be looked at then. */
+    private void standBehind(int m) {
+        course.begin(LawReader.PLAIN, 0);
+        course.go(0, m);
     }
 
     /** 0, if PARTS are told behind m MAKINGS; the course then stands there. */

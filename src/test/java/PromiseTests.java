@@ -232,6 +232,9 @@ public final class PromiseTests {
         dueAsked(7, "mean of big ones", HIGH, x, () -> x.mean(0));
         fill(x, 0, LOW, LOW);
         dueAsked(7, "mean of low ones", LOW, x, () -> x.mean(0));
+        x.row(5, 40);
+        for (int i = 0; i < 40; i++) x.lay(5, i, i);
+        dueAsked(7, "mean of 40", 19, x, () -> x.mean(5));
         dueRefused(7, "mean(6)", BAD, x, () -> x.mean(6));
         dueFinding(7, "mean of missing", NOTHING, x, () -> x.mean(4));
         x.row(0, 0);
@@ -244,7 +247,9 @@ public final class PromiseTests {
         due(8, "text(0, 0)", 0, x.text(0, 0));
         due(8, "count", 2, x.count(1));
         due(8, "a blank", 1032, x.put(3, 39, 70));
+        x.put(3, 0, 70);
         due(8, "text anew", 40, x.text(3, 40));
+        due(8, "a blank anew", 1032, x.put(3, 0, 32));
         due(8, "a blank anew", 1032, x.put(3, 39, 70));
         dueRefused(8, "text(4, 0)", BAD, x, () -> x.text(4, 0));
         dueRefused(8, "text(-1, 0)", BAD, x, () -> x.text(-1, -1));
@@ -385,6 +390,12 @@ public final class PromiseTests {
         x.making(BUILD, 2, 3, 0, 5, 0, false);
         int[][] marks = {{1, FORM, 8}, {2, JOIN, 1}, {3, MIX, 3}, {4, WRITE, 14}, {4, JOIN, 0},
             {5, BUILD, 2}, {5, JOIN, 1}, {6, GROW, 17}, {7, JOIN, 0}, {8, JOIN, 0}, {8, BUILD, 3}};
+        MarbleLaw y = new MarbleLaw();
+        y.stuff(1, 10, 10, 0);
+        y.stuff(1, 10, 10, 0);
+        y.making(MIX, 0, 1, 0, 0, 0, false);
+        y.making(JOIN, 1, 0, 0, 0, 0, false);
+        due(16, "a JOIN of two that were mixed", 0, y.mark(1, JOIN));
         for (int[] k : marks) due(16, "mark(" + k[0] + ", " + k[1] + ")", k[2], x.mark(k[0], k[1]));
         int[][] unlike = {{0, FORM}, {0, JOIN}, {1, JOIN}, {1, GROW}, {2, WRITE}, {2, BUILD}, {2, MIX},
             {3, JOIN}, {4, BUILD}, {5, WRITE}, {6, FORM}, {6, MIX}};
@@ -408,7 +419,7 @@ public final class PromiseTests {
         Object[][] faults = {{"F", 1}, {"FsJ", 3}, {"  J", 3}, {"Fx", 1}, {"F s", 1}, {"s", 0}, {" fs", 1},
             {"FsFs", 2}, {"FsF", 2}, {"FsFx", 2}, {"Fs Js", 4}, {"Jg", 1}, {"Jm", 1}, {"Mm", 1}, {"Wp", 1},
             {"Kc", 1}, {"KY", 1}, {"FsX", 2}, {"Fs.", 2}, {"Fss", 2}, {"FF", 1}, {"\tFs", 0}, {"Fs\n", 2},
-            {"J\0", 1}, {"K\u00ff", 1}, {"\u00e7", 0}};
+            {" ".repeat(39) + "F", 40}, {"J\0", 1}, {"K\u00ff", 1}, {"\u00e7", 0}};
         due(18, "laws ahead", 32221, legislate(x, 2, "KyWmMwJpFg"));
         for (Object[] f : faults) {
             write(x, 1, (String) f[0]);
@@ -427,6 +438,8 @@ public final class PromiseTests {
         dueRefused(19, "law(-1)", BAD, x, () -> x.law(-1));
         dueFinding(19, "law(0)", NOTHING, x, () -> x.law(0));
         due(19, "count", 1, x.count(5));
+        due(18, "laws(0, ..)", 11112, legislate(x, 0, ""));
+        due(40, "count of LAWS", 2, x.count(5));
         write(x, 1, "Fm");
         x.laws(0, 1);
         write(x, 1, "Fg");
@@ -460,6 +473,15 @@ public final class PromiseTests {
                 due(21, "now(2, " + m + ", " + what + ")", ofTwo[m][what], x.now(2, m, what));
             }
         }
+        MarbleLaw y = new MarbleLaw();
+        for (int s = 0; s < 16; s++) y.stuff(0, 99, 99, 0);
+        for (int s = 1; s < 12; s++) y.making(MIX, s - 1, s, 0, 99, 0, false);
+        for (int s = 0; s < 16; s++) y.debt(s, 999);
+        due(20, "eleven in one", 0, y.inside(11, 11));
+        due(21, "WORTH of eleven in one", 12 * 99 + 11 * 99, y.now(5, 11, 1));
+        due(21, "AMOUNT of eleven in one", 12 * 99, y.now(5, 11, 2));
+        due(21, "debts of eleven in one", 12 * 999, y.now(5, 11, 3));
+        due(21, "debts of the last", 999, y.now(15, 11, 3));
         due(21, "first WORTH stays", 1, x.about(2, 1));
         due(21, "first WORTH stays", 30, x.asked());
         int[][] bad = {{4, 0}, {-1, 0}, {0, 9}, {0, -1}};
@@ -560,6 +582,9 @@ public final class PromiseTests {
         due(25, "lost ahead of it", 0, x.lost(0, 1, 0, 0));
         dueFinding(26, "beside itself", SIZE, x, () -> x.beside(0, 0, 0));
         due(26, "beside, ahead of it", 0, x.beside(0, 1, 0));
+        legislate(x, 2, "Ma Jc");
+        dueFinding(26, "beside, the one too fine", SIZE, x, () -> x.beside(0, 2, 0));
+        dueFinding(26, "beside, the other too fine", SIZE, x, () -> x.beside(2, 0, 0));
         dueFinding(28, "sure", SIZE, x, () -> x.sure(0, 0, 3, 0));
         due(28, "sure ahead", 2, x.sure(0, 0, 2, 0));
         dueFinding(29, "hangs", SIZE, x, () -> x.hangs(0, 0, 3, 0));
@@ -621,6 +646,8 @@ public final class PromiseTests {
         dueFinding(28, "by one of all", SIZE, x, () -> x.sure(0, 0, 3, 4));
         dueFinding(29, "by one of all", SIZE, x, () -> x.hangs(0, 0, 3, 4));
         due(30, "by ANSWERS 0", NONE, x.sly(0, 0, 4, 99));
+        due(31, "by ANSWERS 0", 12121, x.stop(0, 0, 4, 99));
+        due(32, "by ANSWERS 0", NONE, x.inTime(0, 0, 4));
     }
 
     private static void changesLostBeside() {
@@ -657,6 +684,12 @@ public final class PromiseTests {
             dueFraction(25, what, k[4], k[5], x);
         }
         due(25, "by the ANSWERS", 0, x.lost(1, 2, 4, 0));
+        MarbleLaw y = new MarbleLaw();
+        y.stuff(0, 1, 1, 0);
+        y.making(WRITE, 0, 0, 1, 0, 0, false);
+        legislate(y, 0, "Wm");
+        due(25, "1 is lost", 1, y.lost(0, 0, 0, 0));
+        due(25, "1 is gained", 2, y.lost(0, 0, 0, 1));
 
         due(26, "0 and 1", 1, x.beside(0, 1, 0));
         due(26, "1 and 0", 1, x.beside(1, 0, 0));
@@ -718,6 +751,19 @@ public final class PromiseTests {
         y.stuff(0, 1, 1, 0);
         y.making(JOIN, 0, 1, 0, 99, 0, true);
         dueAsked(27, "it costs more", 1 - 20, y, () -> y.undo(0, 1));
+        y.stuff(0, 1, 1, 0);
+        y.making(GROW, 1, 1, 0, 0, 0, true);
+        dueRefused(27, "the one in it grew", 0, y, () -> y.undo(0, 2));
+        MarbleLaw z = new MarbleLaw();
+        for (int s = 0; s < 3; s++) z.stuff(0, 5, 1, 0);
+        z.making(JOIN, 0, 1, 0, 0, 0, true);
+        z.making(MIX, 2, 0, 0, 0, 0, true);
+        dueRefused(27, "mixed to another", 0, z, () -> z.undo(0, 2));
+        MarbleLaw w = new MarbleLaw();
+        for (int s = 0; s < 3; s++) w.stuff(0, 5, 1, 0);
+        w.making(JOIN, 0, 1, 0, 0, 0, true);
+        w.making(MIX, 0, 2, 0, 0, 0, true);
+        dueRefused(27, "another mixed to it", 0, w, () -> w.undo(0, 2));
     }
 
     private static void sureAndHangs() {
@@ -814,7 +860,23 @@ public final class PromiseTests {
         for (int i = 0; i < 12; i++) z.making(0, 0, 0, 0, 0, 0, false);
         legislate(z, 0, "");
         due(30, "behind 12 MAKINGS", 3, z.sly(0, 0, 1, 0));
-        due(30, "ANSWERS 0", 12, z.count(3));
+        due(30, "nothing is made", 12, z.count(3));
+        due(30, "his thing is STUFF 0", 3, z.sly(0, 1, 0, 0));
+        z.stuff(0, 1, 1, 2);
+        due(30, "a thing that is another's", NONE, z.sly(0, 0, 3, 0));
+        MarbleLaw u = new MarbleLaw();
+        u.stuff(0, 30, 1, 0);
+        u.making(WRITE, 0, 0, 1, 0, 2, false);
+        u.making(FORM, 0, 0, 2, 99, 0, false);
+        legislate(u, 0, "Fm");
+        due(31, "first of alike ones", 11112, u.stop(0, 0, 2, 99));
+        legislate(u, 0, "Wm Ky");
+        due(30, "ANSWERS 0: who may have known did not", 0, u.sly(0, 0, 1, 99));
+        due(31, "ANSWERS 0: K y does not stop him", 11111, u.stop(0, 0, 1, 99));
+        due(31, "ANSWERS 0: by one word", 1, u.asked());
+        legislate(u, 0, "Ky");
+        due(31, "no word", 11111, u.stop(0, 0, 1, 99));
+        due(31, "no word", 0, u.asked());
         int[][] bad = {{4, 0, 0, 0}, {-1, 0, 0, 0}, {2, 2, 0, 0}, {2, -1, 0, 0}, {2, 0, 6, 0}, {2, 0, -1, 0},
             {2, 0, 0, 100}, {0, 0, 0, -1}};
         for (int[] b : bad) {
@@ -859,6 +921,13 @@ public final class PromiseTests {
         due(32, "too fine without it", NONE, y.inTime(0, 0, 1));
         legislate(y, 1, "Jc Wm");
         due(32, "not too fine without it", 1, y.inTime(1, 0, 1));
+        MarbleLaw v = new MarbleLaw();
+        v.stuff(0, 10, 1, 0);
+        v.making(WRITE, 0, 0, 1, 0, 2, false);
+        v.making(WRITE, 0, 0, 2, 0, 0, false);
+        legislate(v, 0, "Wm Ky");
+        due(32, "ANSWERS 0: by who may have known", 1, v.inTime(0, 0, 1));
+        due(32, "ANSWERS 0: the first takes it too", NONE, v.inTime(0, 0, 0));
         int[][] bad = {{4, 0, 0}, {-1, 0, 0}, {3, 3, 0}, {3, -1, 0}, {0, 0, 6}, {3, 0, -1}};
         for (int[] b : bad) dueRefused(32, "inTime", BAD, x, () -> x.inTime(b[0], b[1], b[2]));
         MarbleLaw z = new MarbleLaw();
@@ -922,6 +991,7 @@ public final class PromiseTests {
         dueDrawn("1, one of ones", heaped(10, 11, 12, 13), 5, 1, 1, 11, 12, 13);
         dueDrawn("1, none from those that have none", heaped(10, 20, 991), 5, 101, 1, 11);
         dueDrawn("1, the cuts of each", heaped(10, 20, 71), 5, 8, 1, 21);
+        dueDrawn("1, the only one", heaped(13), 5, 1, 1);
         dueDrawn("1, all", heaped(50, 31, 42), 5, 12, 1);
         dueDrawn("1, the big ones", heaped(990, 991, 992, 993), 5, 333, 1, 150, 161, 162, 163);
         dueDrawn("2, no own", heaped(50, 31, 42), 5, 5, 2, 50, 21);
@@ -947,6 +1017,9 @@ public final class PromiseTests {
         due(34, "left", 981, y.left(0, 0) + y.left(0, 1) + y.left(0, 2) + y.left(0, 3) + y.left(0, 4) + y.left(0, 5));
         due(34, "the first", 490, y.layer(0, 0));
         due(34, "the last", 501, y.layer(0, 19));
+        due(34, "a full HEAP from the last", 20, y.draw(0, 1, 1, 2));
+        due(34, "the last is his own", 501, y.layer(0, 19));
+        due(34, "the one ahead of it", 480, y.layer(0, 18));
         due(34, "ten layers of 49", 10, y.draw(0, 0, 490, 0));
         due(34, "room again", 11, y.heap(0, 0, 1));
     }
