@@ -353,6 +353,7 @@ public final class BoundaryTests {
         for (int s = 1; s < 6; s++) all.making(MIX, 0, s, 0, 0, 0, false);
         due("all PERSONS", 63, all.owners(0, 0, 5, 0));
         due("all but the last", 31, all.owners(0, 0, 4, 0));
+        due("none above PERSON 5, though PERSON 0 has the next STUFF", 32, stuffsWithLaws("", 5, 0).owners(0, 0, 0, 0));
         due("no question", 0, all.hangs(0, 0, 5, 0));
         for (int q = 0; q < 4; q++) {
             MarbleLaw one = stuffsWithLaws("Wm Ky", 0);
@@ -979,6 +980,10 @@ public final class BoundaryTests {
         due("JOIN, he has but a part of the other", NONE, part.sly(0, 0, 1, 99));
         part.stuff(1, 1, 1, 1);
         due("JOIN, some such STUFF", 3, part.sly(0, 0, 1, 0));
+        due("JOIN, some such STUFF: the first", 3, stuffsWithLaws("", 1, 0).sly(0, 1, 1, 0));
+        MarbleLaw gone = stuffsWithLaws("", 1, 0, 2);
+        gone.making(BUILD, 1, 0, 0, 0, 0, false);
+        due("JOIN, his STUFF came to another's", NONE, gone.sly(0, 2, 1, 99));
         due("JOIN, a part of the thing is his", 3, part.sly(0, 1, 1, 0));
         MarbleLaw answered = stuffsWithLaws("Wm Ky", 0);
         answered.making(WRITE, 0, 0, 1, 0, 2, false);
@@ -1025,6 +1030,13 @@ public final class BoundaryTests {
         stopped("F s, ahead of F m with K y", stuffsWithLaws("Fg", 0), 1, 11, 11112, 1);
         stopped("F m and K y are more", stuffsWithLaws("Fm Wc", 0), 1, 50, 11112, 1);
         quiet("he has all by all LAWS", NONE, stuffsWithLaws("Fm", 0), x -> x.stop(0, 0, 0, 0));
+        stopped("the first LAWS of all", stuffsWithLaws("Ky", 0), 1, 99, 11111, 0);
+        stopped("F g, WORK as much", stuffsWithLaws("Fg", 0), 1, 10, 31112, 0);
+        stopped("F g, WORK one more", stuffsWithLaws("Fg", 0), 1, 11, 11112, 1);
+        MarbleLaw open = stuffsWithLaws("Wm Ky", 0);
+        open.making(WRITE, 0, 0, 1, 0, 2, false);
+        stopped("ANSWERS 0: who may have known did not", open, 1, 0, 11111, 1);
+        manyWords();
         MarbleLaw left = fine(10001);
         legislate(left, 1, "Jc Ma");
         stopped("J p is too fine: two WORDS", left, 1, 5, 0, 12212, 2);
@@ -1049,6 +1061,26 @@ public final class BoundaryTests {
         due("the first lets STUFF 0 stay his", 0, two.inTime(0, 0, 0));
         due("the last lets the one in which it is be another's", 1, two.inTime(0, 0, 1));
         fineInTime();
+    }
+
+    /** Four WORDS, and all five: by no fewer he loses what he has, and has it not again. */
+    private static void manyWords() {
+        MarbleLaw x = new MarbleLaw();
+        x.stuff(0, 43, 1, 1);
+        x.stuff(0, 9, 1, 1);
+        legislate(x, 0, "Fs Jc Ma Wm Ky");
+        x.making(FORM, 0, 0, 2, 57, 1, false);
+        stopped("F, J, W, K", x, 1, 99, 32112, 4);
+        MarbleLaw y = new MarbleLaw();
+        int[][] stuffs = {{82, 83, 2}, {73, 59, 1}, {92, 33, 0}, {8, 45, 0}};
+        for (int[] k : stuffs) y.stuff(0, k[0], k[1], k[2]);
+        legislate(y, 0, "Fm Jc Mw Wm Ky");
+        y.making(FORM, 3, 0, 1, 96, 1, false);
+        y.making(FORM, 0, 0, 1, 87, 1, false);
+        y.making(JOIN, 0, 2, 0, 73, 1, false);
+        y.making(JOIN, 0, 2, 1, 0, 0, false);
+        y.making(MIX, 2, 3, 0, 67, 1, false);
+        stopped("F, J, M, W, K", y, 1, 77, 32112, 5);
     }
 
     private static void stopped(String what, MarbleLaw x, int person, int work, int number, int words) {
@@ -1133,6 +1165,7 @@ public final class BoundaryTests {
         drawn("2: all others'", heaped(50, 31, 42), 2, 8, 2, 42);
         drawn("2: one of his own", heaped(50, 31, 42), 2, 9, 2, 32);
         drawn("2: of his own from the last back", heaped(50, 31, 40), 0, 5, 2, 50, 20);
+        drawn("2: of his own the first", heaped(50, 31), 0, 4, 2, 40);
         drawn("2: all", heaped(50, 31, 42), 1, 12, 2);
     }
 
@@ -1700,6 +1733,7 @@ public final class BoundaryTests {
         quiet("none", NONE, world(), x -> x.changes(0, 2, 0, 2));
         quiet("none, for him who has nothing", NONE, world(), x -> x.changes(0, 0, 0, 5));
         quiet("of no MAKINGS", NONE, stuffsWithLaws("", 0), x -> x.changes(0, 0, 0, 0));
+        quiet("of 12 MAKINGS none", NONE, twoLaws(fullOfMakings(12)), x -> x.changes(1, 0, 0, 0));
         MarbleLaw same = stuffsWithLaws("", 0, 0);
         same.making(MIX, 0, 1, 0, 0, 0, false);
         quiet("both his", NONE, same, x -> x.changes(0, 1, 0, 0));
@@ -1754,6 +1788,16 @@ public final class BoundaryTests {
         due("gained by the last", 2, w.lost(0, 1, 0, 2));
         fraction("gained: 59", -59, 1, w);
         due("neither, by WORTH", 0, w.lost(1, 1, 0, 1));
+        for (int worth = 1; worth <= 2; worth++) {
+            MarbleLaw least = new MarbleLaw();
+            least.stuff(0, worth, 1, 0);
+            least.making(WRITE, 0, 0, 1, 0, 0, false);
+            legislate(least, 0, "Wm");
+            due("the least that is lost", 1, least.lost(0, 0, 0, 0));
+            fraction("the least that is lost", worth, 1, least);
+            due("the least that is gained", 2, least.lost(0, 0, 0, 1));
+            fraction("the least that is gained", -worth, 1, least);
+        }
         sentence(25, "BAD; NOTHING; SIZE.");
         range("l", 0, 3, (x, v) -> x.lost(v, 0, 0, 0));
         range("m", 0, 1, (x, v) -> x.lost(0, v, 0, 0));
@@ -1778,6 +1822,7 @@ public final class BoundaryTests {
         legislate(first, 3, "Fg Wm Ky");
         quiet("other LAWS that tell the same", NONE, first, x -> x.beside(0, 3, 0));
         quiet("no MAKINGS", NONE, twoLaws(stuffs(0)), x -> x.beside(0, 1, 0));
+        quiet("12 MAKINGS", NONE, twoLaws(fullOfMakings(12)), x -> x.beside(0, 1, 0));
         MarbleLaw asked = twoLaws(stuffs(0));
         asked.making(WRITE, 0, 0, 1, 0, 5, false);
         quiet("by ANSWERS 7", 0, asked, x -> x.beside(0, 1, 7));
@@ -1851,6 +1896,7 @@ public final class BoundaryTests {
             if (knew == 0) due("too fine by no ANSWERS", 2, x.sure(0, 0, 4, 5));
             else finds("too fine by some ANSWERS", SIZE, x, y -> y.sure(0, 0, 4, 5));
         }
+        finds("too fine by half of the ANSWERS, 0 among them", SIZE, fineIfTaken(), y -> y.sure(0, 0, 4, 5));
 
         sentence(29, "On which questions it HANGS (bits; 0: none).");
         quiet("none", 0, open, x -> x.hangs(0, 0, 0, 0));
@@ -1873,6 +1919,7 @@ public final class BoundaryTests {
             if (knew == 0) due("too fine by no ANSWERS", 0, x.hangs(0, 0, 4, 5));
             else finds("too fine by some ANSWERS", SIZE, x, y -> y.hangs(0, 0, 4, 5));
         }
+        finds("too fine by half of the ANSWERS, 0 among them", SIZE, fineIfTaken(), y -> y.hangs(0, 0, 4, 5));
         slyAndStopCalls();
     }
 
@@ -1886,6 +1933,21 @@ public final class BoundaryTests {
         x.making(MIX, 0, 1, 0, 0, 0, false);
         x.making(MIX, 2, 3, 0, 0, 0, false);
         x.making(WRITE, 0, 0, 5, 0, knew, false);
+        x.making(JOIN, 0, 2, 0, 0, 0, false);
+        legislate(x, 0, "Jp Wm Ky");
+        return x;
+    }
+
+    /** As fine(10001) by ANSWERS 0, when PERSON 5 has STUFF 1 by writing on it; all is PERSON 0's by ANSWERS 1. */
+    private static MarbleLaw fineIfTaken() {
+        MarbleLaw x = new MarbleLaw();
+        x.stuff(0, 1, 1, 0);
+        x.stuff(0, 1, 72, 0);
+        x.stuff(0, 68, 1, 2);
+        x.stuff(0, 67, 1, 2);
+        x.making(WRITE, 1, 0, 5, 0, 2, false);
+        x.making(MIX, 0, 1, 0, 0, 0, false);
+        x.making(MIX, 2, 3, 0, 0, 0, false);
         x.making(JOIN, 0, 2, 0, 0, 0, false);
         legislate(x, 0, "Jp Wm Ky");
         return x;
@@ -1911,6 +1973,8 @@ public final class BoundaryTests {
         finds("too fine", SIZE, fine(10001), x -> x.sly(0, 0, 5, 0));
         due("just as fine", 3, fine(10000).sly(1, 0, 5, 0));
         due("too fine by ANSWERS 1 alone", NONE, fineUnlessTaken(2).sly(0, 0, 5, 0));
+        finds("too fine by ANSWERS 0 alone", SIZE, fineIfTaken(), x -> x.sly(0, 0, 5, 0));
+        due("by ANSWERS 1", 5, fineIfTaken().owners(0, 0, 4, 1));
         sentence(30, "(Nothing is made.)");
         MarbleLaw full = fullOfMakings(12);
         legislate(full, 0, "Fm");
@@ -1939,6 +2003,8 @@ public final class BoundaryTests {
         finds("too fine", SIZE, fine(10001), x -> x.stop(0, 0, 5, 0));
         due("just as fine", 12112, fine(10000).stop(0, 0, 5, 0));
         due("other LAWS too fine", 12212, fine(10001).stop(1, 0, 5, 0));
+        due("too fine by ANSWERS 1 alone", 12121, fineUnlessTaken(2).stop(0, 0, 5, 0));
+        finds("too fine by ANSWERS 0 alone", SIZE, fineIfTaken(), x -> x.stop(0, 0, 5, 0));
         sentence(31, "(LAWS stay.)");
         MarbleLaw stay = stuffsWithLaws("Fm Wm", 0);
         long digest = stay.digest();
@@ -1959,6 +2025,7 @@ public final class BoundaryTests {
         legislate(twelfth, 0, "Wm");
         twelfth.making(WRITE, 0, 0, 1, 0, 0, false);
         quiet("the twelfth", 11, twelfth, y -> y.inTime(0, 0, 0));
+        quiet("none of twelve", NONE, twelfth, y -> y.inTime(0, 0, 5));
         sentence(32, "BAD; NOTHING; SIZE.");
         range("l", 0, 3, (y, v) -> y.inTime(v, 0, 0));
         range("s", 0, 2, (y, v) -> y.inTime(0, v, 0));
@@ -1966,6 +2033,8 @@ public final class BoundaryTests {
         finds("missing", NOTHING, world(), y -> y.inTime(2, 0, 0));
         finds("too fine", SIZE, fine(10001), y -> y.inTime(0, 0, 5));
         quiet("just as fine", NONE, fine(10000), y -> y.inTime(0, 0, 5));
+        quiet("too fine by ANSWERS 1 alone", NONE, fineUnlessTaken(2), y -> y.inTime(0, 0, 5));
+        finds("too fine by ANSWERS 0 alone", SIZE, fineIfTaken(), y -> y.inTime(0, 0, 5));
     }
 
     private static void promises33To36() {
