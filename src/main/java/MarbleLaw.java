@@ -28,8 +28,8 @@ public final class MarbleLaw {
     private static final int NOTE = 0, FORM = 1, JOIN = 2, MIX = 3, WRITE = 4, BUILD = 5, GROW = 6,
             KINDS = 7;
 
-    private final IntRow[] rows = new IntRow[ROWS];
-    private final ByteRow[] texts = new ByteRow[TEXTS];
+    private final Row[] rows = new Row[ROWS];
+    private final Row[] texts = new Row[TEXTS];
     private final Tale tale = new Tale();
     private final LawReader reader = new LawReader();
     private final int[] lawNumbers = new int[LAWS];
@@ -44,10 +44,10 @@ public final class MarbleLaw {
 
     public MarbleLaw() {
         for (int r = 0; r < ROWS; r++) {
-            rows[r] = new IntRow();
+            rows[r] = new Row();
         }
         for (int t = 0; t < TEXTS; t++) {
-            texts[t] = new ByteRow();
+            texts[t] = new Row();
         }
         for (int l = 0; l < LAWS; l++) {
             lawNumbers[l] = MISSING;
@@ -60,18 +60,11 @@ public final class MarbleLaw {
     // ---- 1 rows, texts, stuffs, makings
 
     public int row(int r, int n) {
-        if (!within(r, ROWS) || n > PLACES) {
-            return BAD;
-        }
-        if (n < 0) {
-            return found(SIZE);
-        }
-        rows[r].begin(n);
-        return n;
+        return begin(rows, r, n, 0);
     }
 
     public int lay(int r, int i, int v) {
-        int refusal = refusalOfPlace(r, i);
+        int refusal = refusalOfPlace(rows, r, i);
         if (refusal != 0) {
             return refusal;
         }
@@ -81,7 +74,7 @@ public final class MarbleLaw {
     }
 
     public int at(int r, int i) {
-        int refusal = refusalOfPlace(r, i);
+        int refusal = refusalOfPlace(rows, r, i);
         if (refusal != 0) {
             return refusal;
         }
@@ -107,8 +100,8 @@ public final class MarbleLaw {
         if (n < 0) {
             return found(SIZE);
         }
-        IntRow source = rows[r];
-        IntRow target = rows[to];
+        Row source = rows[r];
+        Row target = rows[to];
         if (source.isMissing() || target.isMissing()) {
             return found(NOTHING);
         }
@@ -123,7 +116,7 @@ public final class MarbleLaw {
         if (!within(r, ROWS)) {
             return BAD;
         }
-        IntRow row = rows[r];
+        Row row = rows[r];
         if (row.isMissing()) {
             return found(NOTHING);
         }
@@ -135,29 +128,16 @@ public final class MarbleLaw {
     }
 
     public int text(int t, int n) {
-        if (!within(t, TEXTS) || n > PLACES) {
-            return BAD;
-        }
-        if (n < 0) {
-            return found(SIZE);
-        }
-        texts[t].begin(n);
-        return n;
+        return begin(texts, t, n, BLANK);
     }
 
     public int put(int t, int i, int v) {
-        if (!within(t, TEXTS)) {
-            return BAD;
+        int refusal = refusalOfPlace(texts, t, i);
+        if (refusal != 0) {
+            return refusal;
         }
-        ByteRow text = texts[t];
-        if (text.isMissing()) {
-            return found(NOTHING);
-        }
-        if (!within(i, text.size)) {
-            return found(BEYOND);
-        }
-        int before = text.signs[i];
-        text.signs[i] = (byte) v;
+        int before = texts[t].places[i];
+        texts[t].places[i] = (byte) v;
         return before + 1000;
     }
 
@@ -175,7 +155,7 @@ public final class MarbleLaw {
         if (!within(r, ROWS)) {
             return BAD;
         }
-        IntRow row = rows[r];
+        Row row = rows[r];
         if (row.isMissing()) {
             return found(NOTHING);
         }
@@ -316,11 +296,7 @@ public final class MarbleLaw {
     }
 
     public int whose(int l, int s, int m, int answers, int person) {
-        if (!within(l, LAWS) || !isStuff(s) || !isStory(m) || !within(answers, ALL_ANSWERS)
-                || !within(person, PERSONS)) {
-            return BAD;
-        }
-        int refusal = refusalOfParts(l, m, answers);
+        int refusal = refusalOfParts(l, s, m, answers, person);
         if (refusal != 0) {
             return refusal;
         }
@@ -330,10 +306,7 @@ public final class MarbleLaw {
     }
 
     public int owners(int l, int s, int m, int answers) {
-        if (!within(l, LAWS) || !isStuff(s) || !isStory(m) || !within(answers, ALL_ANSWERS)) {
-            return BAD;
-        }
-        int refusal = refusalOfParts(l, m, answers);
+        int refusal = refusalOfParts(l, s, m, answers, 0);
         if (refusal != 0) {
             return refusal;
         }
@@ -347,11 +320,7 @@ public final class MarbleLaw {
     }
 
     public int changes(int l, int s, int answers, int person) {
-        if (!within(l, LAWS) || !isStuff(s) || !within(answers, ALL_ANSWERS)
-                || !within(person, PERSONS)) {
-            return BAD;
-        }
-        int refusal = refusalOfParts(l, 0, answers);
+        int refusal = refusalOfParts(l, s, 0, answers, person);
         if (refusal != 0) {
             return refusal;
         }
@@ -371,11 +340,10 @@ public final class MarbleLaw {
     }
 
     public int lost(int l, int m, int answers, int person) {
-        if (!within(l, LAWS) || !isMaking(m) || !within(answers, ALL_ANSWERS)
-                || !within(person, PERSONS)) {
+        if (!isMaking(m)) {
             return BAD;
         }
-        int refusal = refusalOfParts(l, m, answers);
+        int refusal = refusalOfParts(l, tale.ofMaking(m, CHIEF), m, answers, person);
         if (refusal != 0) {
             return refusal;
         }
@@ -450,15 +418,9 @@ public final class MarbleLaw {
     }
 
     public int sure(int l, int s, int m, int person) {
-        if (!within(l, LAWS) || !isStuff(s) || !isStory(m) || !within(person, PERSONS)) {
-            return BAD;
-        }
-        if (lawNumbers[l] == MISSING) {
-            return found(NOTHING);
-        }
         int having = answersByWhichHas(l, s, m, person);
-        if (having == MISSING) {
-            return found(SIZE);
+        if (having < 0) {
+            return having;
         }
         if (having == 0) {
             return 0;
@@ -467,15 +429,9 @@ public final class MarbleLaw {
     }
 
     public int hangs(int l, int s, int m, int person) {
-        if (!within(l, LAWS) || !isStuff(s) || !isStory(m) || !within(person, PERSONS)) {
-            return BAD;
-        }
-        if (lawNumbers[l] == MISSING) {
-            return found(NOTHING);
-        }
         int having = answersByWhichHas(l, s, m, person);
-        if (having == MISSING) {
-            return found(SIZE);
+        if (having < 0) {
+            return having;
         }
         int fewest = ALL_ANSWERS - 1;
         for (int questions = 0; questions < ALL_ANSWERS; questions++) {
@@ -487,10 +443,10 @@ public final class MarbleLaw {
     }
 
     public int sly(int l, int s, int person, int work) {
-        if (!within(l, LAWS) || !isStuff(s) || !within(person, PERSONS) || !isWork(work)) {
+        if (!isWork(work)) {
             return BAD;
         }
-        int refusal = refusalOfParts(l, tale.makings, 0);
+        int refusal = refusalOfParts(l, s, tale.makings, 0, person);
         if (refusal != 0) {
             return refusal;
         }
@@ -498,10 +454,10 @@ public final class MarbleLaw {
     }
 
     public int stop(int l, int s, int person, int work) {
-        if (!within(l, LAWS) || !isStuff(s) || !within(person, PERSONS) || !isWork(work)) {
+        if (!isWork(work)) {
             return BAD;
         }
-        int refusal = refusalOfParts(l, tale.makings, 0);
+        int refusal = refusalOfParts(l, s, tale.makings, 0, person);
         if (refusal != 0) {
             return refusal;
         }
@@ -519,10 +475,7 @@ public final class MarbleLaw {
     }
 
     public int inTime(int l, int s, int person) {
-        if (!within(l, LAWS) || !isStuff(s) || !within(person, PERSONS)) {
-            return BAD;
-        }
-        int refusal = refusalOfParts(l, tale.makings, 0);
+        int refusal = refusalOfParts(l, s, tale.makings, 0, person);
         if (refusal != 0) {
             return refusal;
         }
@@ -695,15 +648,27 @@ public final class MarbleLaw {
         return !namesTwo(kind) || (isStuff(v) && v != s);
     }
 
-    /** 0, if place i of ROW r is there. */
-    private int refusalOfPlace(int r, int i) {
-        if (!within(r, ROWS)) {
+    /** A ROW or a TEXT is there, with n places as filled: n, or refused. */
+    private int begin(Row[] all, int r, int n, int filling) {
+        if (!within(r, all.length) || n > PLACES) {
             return BAD;
         }
-        if (rows[r].isMissing()) {
+        if (n < 0) {
+            return found(SIZE);
+        }
+        all[r].begin(n, filling);
+        return n;
+    }
+
+    /** 0, if place i of a ROW or a TEXT is there. */
+    private int refusalOfPlace(Row[] all, int r, int i) {
+        if (!within(r, all.length)) {
+            return BAD;
+        }
+        if (all[r].isMissing()) {
             return found(NOTHING);
         }
-        return within(i, rows[r].size) ? 0 : found(BEYOND);
+        return within(i, all[r].size) ? 0 : found(BEYOND);
     }
 
     /** For what is the same by all LAWS; whether PARTS are too fine is not to be looked at then. */
@@ -713,7 +678,11 @@ public final class MarbleLaw {
     }
 
     /** 0, if PARTS are told behind m MAKINGS; the course then stands there. */
-    private int refusalOfParts(int l, int m, int answers) {
+    private int refusalOfParts(int l, int s, int m, int answers, int person) {
+        if (!within(l, LAWS) || !isStuff(s) || !isStory(m) || !within(answers, ALL_ANSWERS)
+                || !within(person, PERSONS)) {
+            return BAD;
+        }
         if (lawNumbers[l] == MISSING) {
             return found(NOTHING);
         }
@@ -723,16 +692,15 @@ public final class MarbleLaw {
     }
 
     /**
-     * Bit a of the answer: by ANSWERS a the PERSON has something. MISSING, if PARTS are too fine by
-     * any ANSWERS: then nothing can be said over all of them.
+     * Bit a of what is told: by ANSWERS a the PERSON has something. Below 0 it is a refusal: where
+     * PARTS are too fine by any ANSWERS, nothing can be said over all of them.
      */
     private int answersByWhichHas(int l, int s, int m, int person) {
         int having = 0;
         for (int answers = 0; answers < ALL_ANSWERS; answers++) {
-            course.begin(lawNumbers[l], answers);
-            course.go(0, m);
-            if (course.tooFine) {
-                return MISSING;
+            int refusal = refusalOfParts(l, s, m, answers, person);
+            if (refusal != 0) {
+                return refusal;
             }
             if (course.hasSome(s, person)) {
                 having |= 1 << answers;
@@ -778,19 +746,21 @@ public final class MarbleLaw {
         return x;
     }
 
+    private static int thereOf(Row[] all) {
+        int n = 0;
+        for (Row row : all) {
+            n += row.isMissing() ? 0 : 1;
+        }
+        return n;
+    }
+
     private int counted(int what) {
         int n = 0;
         switch (what) {
             case 0:
-                for (int r = 0; r < ROWS; r++) {
-                    n += rows[r].isMissing() ? 0 : 1;
-                }
-                return n;
+                return thereOf(rows);
             case 1:
-                for (int t = 0; t < TEXTS; t++) {
-                    n += texts[t].isMissing() ? 0 : 1;
-                }
-                return n;
+                return thereOf(texts);
             case 2:
                 return tale.stuffs;
             case 3:
@@ -813,8 +783,8 @@ public final class MarbleLaw {
         }
     }
 
-    /** A ROW: of its places the first ones, as many as its size, are there. */
-    private static final class IntRow {
+    /** A ROW, or a TEXT (its bytes held as ints): the first places, as many as its size, are there. */
+    private static final class Row {
         final int[] places = new int[PLACES];
         int size = MISSING;
 
@@ -822,9 +792,9 @@ public final class MarbleLaw {
             return size == MISSING;
         }
 
-        void begin(int n) {
+        void begin(int n, int filling) {
             for (int i = 0; i < PLACES; i++) {
-                places[i] = 0;
+                places[i] = filling;
             }
             size = n;
         }
@@ -846,31 +816,6 @@ public final class MarbleLaw {
             long h = 31 * digest + size;
             for (int i = 0; i < size; i++) {
                 h = 31 * h + places[i];
-            }
-            return h;
-        }
-    }
-
-    /** A TEXT. */
-    private static final class ByteRow {
-        final byte[] signs = new byte[PLACES];
-        int size = MISSING;
-
-        boolean isMissing() {
-            return size == MISSING;
-        }
-
-        void begin(int n) {
-            for (int i = 0; i < PLACES; i++) {
-                signs[i] = BLANK;
-            }
-            size = n;
-        }
-
-        long addTo(long digest) {
-            long h = 31 * digest + size;
-            for (int i = 0; i < size; i++) {
-                h = 31 * h + signs[i];
             }
             return h;
         }
@@ -944,24 +889,24 @@ public final class MarbleLaw {
         private final int[] chosen = new int[WORDS];
 
         /** The FAULT of a TEXT, or NONE. */
-        int read(ByteRow text) {
+        int read(Row text) {
             for (int w = 0; w < WORDS; w++) {
                 chosen[w] = 0;
             }
             int i = 0;
             while (i < text.size) {
-                if (text.signs[i] == BLANK) {
+                if (text.places[i] == BLANK) {
                     i++;
                     continue;
                 }
-                int word = wordOf(text.signs[i]);
+                int word = wordOf(text.places[i]);
                 if (word < 0 || chosen[word] != 0) {
                     return i;
                 }
                 if (i + 1 >= text.size) {
                     return text.size;
                 }
-                chosen[word] = choiceOf(word, text.signs[i + 1]);
+                chosen[word] = choiceOf(word, text.places[i + 1]);
                 if (chosen[word] == 0) {
                     return i + 1;
                 }
