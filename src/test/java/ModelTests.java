@@ -697,7 +697,7 @@ public final class ModelTests {
 
     private static void tellStory() {
         int sorts = 1 + random.nextInt(3), most = random.nextBoolean() ? 99 : 6;
-        int stuffs = 1 + random.nextInt(7), makings = random.nextInt(13);
+        int stuffs = random.nextInt(8) == 0 ? 16 : 1 + random.nextInt(7), makings = random.nextInt(13);
         for (int i = 0; i < stuffs; i++) {
             int so = random.nextInt(sorts), w = 1 + random.nextInt(most), a = 1 + random.nextInt(most), o = random.nextInt(6);
             same("stuff(" + so + ", " + w + ", " + a + ", " + o + ")", 10, y.stuff(so, w, a, o), x.stuff(so, w, a, o));

@@ -114,6 +114,7 @@ public final class PromiseTests {
         sureAndHangs();
         slyAndStop();
         inTime();
+        lastStuffAndMaking();
         heaps();
         drawing();
         whatIsTold();
@@ -933,6 +934,48 @@ public final class PromiseTests {
         MarbleLaw z = new MarbleLaw();
         z.stuff(0, 1, 1, 0);
         dueFinding(32, "no LAWS", NOTHING, z, () -> z.inTime(3, 0, 0));
+    }
+
+    /** 16 STUFFS and 12 MAKINGS: the last ones are asked after by each call that goes through a story. */
+    private static void lastStuffAndMaking() {
+        MarbleLaw x = new MarbleLaw();
+        for (int s = 0; s < 16; s++) x.stuff(1, 10, 10, s % 6);
+        for (int m = 0; m < 10; m++) x.making(0, 15, 0, 0, 0, 0, false);
+        due(13, "the eleventh", 10, x.making(JOIN, 15, 14, 0, 5, 0, true));
+        due(13, "the twelfth", 11, x.making(GROW, 15, 7, 0, 0, 0, false));
+        legislate(x, 0, "");
+        legislate(x, 1, "Jp Wm");
+        x.debt(14, 1);
+        x.debt(15, 999);
+        due(16, "mark", 1, x.mark(10, JOIN));
+        due(20, "inside", 14, x.inside(14, 10));
+        due(20, "inside", 15, x.inside(14, 12));
+        due(20, "inside", 15, x.inside(15, 12));
+        due(21, "WORTH", 25, x.now(14, 12, 1));
+        due(21, "AMOUNT", 17, x.now(15, 12, 2));
+        due(21, "debts", 1000, x.now(14, 12, 3));
+        due(22, "whose", 1, x.whose(1, 14, 12, 0, 2));
+        dueFraction(22, "whose", 1, 2, x);
+        due(23, "owners", 8, x.owners(0, 15, 12, 15));
+        due(23, "owners", 12, x.owners(1, 15, 12, 15));
+        due(24, "changes", NONE, x.changes(0, 15, 0, 3));
+        due(24, "changes", 10, x.changes(1, 15, 0, 3));
+        due(25, "lost", 0, x.lost(1, 10, 0, 2));
+        due(25, "lost", 1, x.lost(0, 10, 0, 2));
+        dueFraction(25, "lost", 10, 1, x);
+        due(26, "beside", 10, x.beside(0, 1, 0));
+        due(26, "beside themselves", NONE, x.beside(1, 1, 0));
+        dueAsked(27, "undo", 7, x, () -> x.undo(10, 11));
+        due(27, "undo", 0, x.undo(10, 12));
+        due(28, "sure", 2, x.sure(1, 15, 12, 2));
+        due(28, "sure", 0, x.sure(0, 15, 12, 2));
+        due(29, "hangs", 0, x.hangs(1, 15, 12, 2));
+        due(30, "sly", 3, x.sly(0, 15, 2, 0));
+        due(30, "sly", 2, x.sly(1, 15, 2, 0));
+        due(31, "stop", 12112, x.stop(0, 15, 2, 0));
+        due(31, "stop asked()", 1, x.asked());
+        due(32, "inTime", 10, x.inTime(0, 14, 2));
+        due(32, "inTime", NONE, x.inTime(1, 14, 2));
     }
 
     private static void heaps() {
